@@ -946,6 +946,10 @@ public final class FlushedPipes {
 
     public int fewest() {
         goThrough(now.pipe);
+        // More facts never make less equal: what all of them do not do, fewer do not either.
+        if (wrongBy(now.factsIn) != 0) {
+            return NONE;
+        }
         for (int bits = 0; bits <= told.facts; bits++) {
             int facts = fewestOf(bits);
             if (facts != NONE) {

@@ -4,6 +4,8 @@ public final class FactsTest {
         fact();
         factLeftOut();
         deepChains();
+        spreads();
+        allIsRuledOut();
         ruled();
         equal();
         equalWays();
@@ -68,6 +70,32 @@ public final class FactsTest {
         x = Check.told("!fab;!fbc;=fa fb;");
         Check.due("fact(0): unlike, as told", x.fact(0), 2);
         Check.due("f of a and b are equal, a and b need not be", x.equal(0, 1, 0), 0);
+    }
+
+    /** What follows of later terms reaches terms that were told ahead of them. */
+    private static void spreads() {
+        Check.topic("10 fact, by what follows later");
+        FlushedPipes x = Check.told("!fafb;=gcca;=gddb;=cd;");
+        Check.due("ruled()", x.ruled(), 1);
+        x.leaves(3);
+        Check.due("ruled()", x.ruled(), 0);
+        Check.due("fact(3)", x.fact(3), 2);
+    }
+
+    private static void allIsRuledOut() {
+        Check.topic("10, 12 all is ruled out");
+        FlushedPipes x = Check.told("!cc;=ab;!ad;u01;u13;");
+        x.leaves(1);
+        Check.due("fact(0)", x.fact(0), 1);
+        Check.due("fact(1)", x.fact(1), 1);
+        Check.due("fact(2)", x.fact(2), 1);
+        Check.due("equal(0, 1, 0)", x.equal(0, 1, 0), 1);
+        Check.due("equal(2, 3, 2)", x.equal(2, 3, 2), 1);
+        x.leaves(0);
+        Check.due("fact(0)", x.fact(0), 1);
+        Check.due("fact(1)", x.fact(1), 0);
+        Check.due("fact(2)", x.fact(2), 2);
+        Check.due("equal(0, 1, 0)", x.equal(0, 1, 0), 0);
     }
 
     private static void ruled() {

@@ -8,6 +8,7 @@ public final class PipeTest {
         waitsByForwards();
         wrong();
         needed();
+        neededOrder();
         fewest();
         fewestOrder();
         broken();
@@ -170,6 +171,22 @@ public final class PipeTest {
         Check.due("needed(): of two with as few bits", x.needed(), 3);
     }
 
+    private static void neededOrder() {
+        Check.topic("18 needed, order");
+        neededBy3("1 or 2", "u01;u01;u10;", 1);
+        neededBy3("1 or 4", "u02;n;u02;u00;", 1);
+        neededBy3("2 or 4", "u01;u01;n;u00;", 2);
+        neededBy3("4, or 1 and 2", "=bfb;u01;u00;n;u00;", 4);
+        neededBy3("1 and 2, or 2 and 3", "u10;u20;u10;o112;", 3);
+        neededBy3("1 and 3, or 2 and 3", "u12;u20;u20;o121;", 5);
+    }
+
+    private static void neededBy3(String which, String text, int want) {
+        FlushedPipes x = Check.told(text);
+        x.tells(3, 0, 0);
+        Check.due("needed() of " + which, x.needed(), want);
+    }
+
     private static void fewest() {
         Check.topic("19 fewest");
         FlushedPipes x = Check.told("=cd;=faa;=fffaa;=ffffa fa;u00;u00;");
@@ -211,17 +228,15 @@ public final class PipeTest {
                 x.tells(lag, forwards, 0);
                 int size = firstHidden(lag, forwards) + 1;
                 Check.due("broken(-1) by " + lag + ", " + forwards, x.broken(-1), size == 1 ? Check.NONE : size);
-                Check.due("broken(0)", x.broken(0), size == 1 ? Check.NONE : 0);
+                for (int k = 0; k < size; k++) {
+                    int want = size == 1 ? Check.NONE : k == 0 || k == size - 1 ? 0 : 4;
+                    Check.due("broken(" + k + ") by " + lag + ", " + forwards, x.broken(k), want);
+                }
                 Check.due("broken(size)", x.broken(size), Check.NONE);
                 x.tells(lag, forwards, 1);
                 Check.due("broken(-1), waiting", x.broken(-1), Check.NONE);
                 Check.due("broken(0), waiting", x.broken(0), Check.NONE);
             }
-        }
-        x.tells(3, 3, 0);
-        int[] want = {0, 4, 4, 0};
-        for (int k = 0; k < 4; k++) {
-            Check.due("broken(" + k + ")", x.broken(k), want[k]);
         }
         Check.due("broken(-2)", x.broken(-2), Check.BAD);
         Check.due("broken(min)", x.broken(Integer.MIN_VALUE), Check.BAD);
