@@ -80,6 +80,13 @@ public final class FactsTest {
         x.leaves(3);
         Check.due("ruled()", x.ruled(), 0);
         Check.due("fact(3)", x.fact(3), 2);
+        x = Check.told("!gaba;!gaaa;!gada;!gabgac;=bc;");
+        Check.due("ruled(): g a c is g a b, with others of g a between", x.ruled(), 1);
+        x.leaves(3);
+        Check.due("ruled()", x.ruled(), 0);
+        Check.due("fact(3)", x.fact(3), 1);
+        x = Check.told("=ab;!faga b;!fbgbb;");
+        Check.due("ruled(): f is not g, whatever they are of", x.ruled(), 0);
     }
 
     private static void allIsRuledOut() {
