@@ -30,6 +30,7 @@ public final class FlushedPipes {
     private static final int NO_CODE = -1;
     private static final int NO_MAKER = -1;
     private static final int NO_TARGET = -1;
+    private static final int NOT_SOUGHT = -1, NOT_BROKEN = 0;
 
     /** FORWARDS, those of fewer bits first, then the lower ones. */
     private static final int[] FORWARDS_BY_BITS = {0, 1, 2, 4, 3, 5, 6, 7};
@@ -645,57 +646,65 @@ public final class FlushedPipes {
         }
     }
 
-    /** The first shortest program by which a pipe is broken; it is sought once for a pipe. */
+    /** The first shortest program by which a pipe is broken: its size, and below that its number (see writeProgram). */
     private static final class Breaker {
         private final Program program = new Program();
         private final Terms terms = new Terms(BREAKING_TERMS);
         private final Flow flow = new Flow();
-        private final Pipe pipe = new Pipe();
-        private boolean sought;
+        /** What was found for each pipe that does not wait, so that each is sought for once at most. */
+        private final int[] found = new int[(LAG_LIMIT + 1) * (ALL_FORWARDS + 1)];
 
-        /** How many instructions that program has; 0 if there is none. */
-        int sizeBy(Pipe asked) {
-            if (sought && pipe.is(asked.lag, asked.forwards, asked.waits)) {
-                return program.size;
-            }
-            pipe.copyFrom(asked);
-            sought = true;
-            boolean found = false;
-            for (int size = 1; size <= BREAKING_LIMIT && !found && !pipe.hidesNothing(); size++) {
-                found = seekOfSize(size);
-            }
-            if (!found) {
-                program.forgetAll();
-            }
-            return program.size;
+        Breaker() {
+            Arrays.fill(found, NOT_SOUGHT);
         }
 
-        int numberAt(int k) {
-            int code = program.codeAt(k);
-            return 4 * Program.targetOf(code) + 2 * Program.firstOf(code) + Program.secondOf(code);
+        /** NOT_BROKEN if there is no such program. */
+        int programBy(Pipe pipe) {
+            int place = pipe.lag * (ALL_FORWARDS + 1) + pipe.forwards;
+            if (pipe.hidesNothing() || place < 0 || place >= found.length) {
+                return NOT_BROKEN;
+            }
+            if (found[place] == NOT_SOUGHT) {
+                found[place] = seek(pipe);
+            }
+            return found[place];
         }
 
-        private boolean seekOfSize(int size) {
-            int programs = 1 << 3 * size;
-            for (int number = 0; number < programs; number++) {
-                writeProgram(size, number);
-                terms.dropPassing();
-                flow.goPlain(program, terms);
-                flow.goPiped(program, pipe, terms);
-                if (flow.differing() != 0) {
-                    return true;
+        private int seek(Pipe pipe) {
+            for (int size = 1; size <= BREAKING_LIMIT; size++) {
+                int programs = 1 << 3 * size;
+                for (int number = 0; number < programs; number++) {
+                    writeProgram(size, number);
+                    terms.dropPassing();
+                    flow.goPlain(program, terms);
+                    flow.goPiped(program, pipe, terms);
+                    if (flow.differing() != 0) {
+                        return size << 3 * BREAKING_LIMIT | number;
+                    }
                 }
             }
-            return false;
+            return NOT_BROKEN;
         }
 
         /** The number's octal figures are the instructions, so that lower numbers are earlier programs. */
         private void writeProgram(int size, int number) {
             program.forgetAll();
             for (int k = 0; k < size; k++) {
-                int one = number >> 3 * (size - 1 - k) & 7;
+                int one = figureAt(size, number, k);
                 program.set(k, Program.codeOf(2, one >> 2 & 1, one >> 1 & 1, one & 1));
             }
+        }
+
+        private static int figureAt(int size, int number, int k) {
+            return number >> 3 * (size - 1 - k) & 7;
+        }
+
+        static int sizeOf(int breaking) {
+            return breaking >> 3 * BREAKING_LIMIT;
+        }
+
+        static int numberAt(int breaking, int k) {
+            return figureAt(sizeOf(breaking), breaking, k);
         }
     }
 
@@ -973,11 +982,12 @@ public final class FlushedPipes {
         if (k < -1) {
             return BAD;
         }
-        int size = breaker.sizeBy(now.pipe);
+        int breaking = breaker.programBy(now.pipe);
+        int size = Breaker.sizeOf(breaking);
         if (size == 0 || k >= size) {
             return NONE;
         }
-        return k == -1 ? size : breaker.numberAt(k);
+        return k == -1 ? size : Breaker.numberAt(breaking, k);
     }
 
     public int sees(int wrong) {
