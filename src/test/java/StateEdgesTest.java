@@ -4,6 +4,7 @@ public final class StateEdgesTest {
 
     public static void main(String[] args) {
         lastOfAllCalls();
+        manyPrograms();
         laterCallsEnd();
         putsTakesEveryInstruction();
         putsFromNoneToSix();
@@ -46,6 +47,37 @@ public final class StateEdgesTest {
         }
         Check.due("tells(3, 7, 1), the 511th", x.tells(3, 7, 1), 1);
         Check.due("undo(), the 512th", x.undo(), 9);
+    }
+
+    /** What older programs made is nowhere left: the last one is as on a new object. */
+    private static void manyPrograms() {
+        Check.topic("An object is used for at most 512 calls: a late program is gone through as an early one");
+        FlushedPipes late = behindManyPrograms();
+        StringBuilder text = new StringBuilder("=ab;");
+        for (int k = 0; k < 6; k++) {
+            text.append("o").append(late.instruction(k, 1)).append(late.instruction(k, 2));
+            text.append(late.instruction(k, 3)).append(";");
+        }
+        FlushedPipes early = Check.told(text.toString());
+        Check.due("wrong()", late.wrong(), early.wrong());
+        for (int r = 0; r <= 3; r++) {
+            Check.due("deep(" + r + ", 0)", late.deep(r, 0), early.deep(r, 0));
+            Check.due("deep(" + r + ", 1)", late.deep(r, 1), early.deep(r, 1));
+        }
+        boolean alike = Sight.NOW.of(StateEdgesTest::behindManyPrograms, x -> 0)
+            .equals(Sight.NOW.of(() -> Check.told(text.toString()), x -> 0));
+        Check.due("it is as on a new object", alike ? 1 : 0, 1);
+    }
+
+    private static FlushedPipes behindManyPrograms() {
+        FlushedPipes x = Check.told("=ab;n;n;n;n;n;n;");
+        int some = 1;
+        for (int i = 0; i < 150; i++) {
+            some = (some * 1103515245 + 12345) & 0x7fffffff;
+            x.puts(i % 6, 2, some >> 10 & 3, some >> 14 & 3, some >> 18 & 3);
+            x.wrong();
+        }
+        return x;
     }
 
     private static void laterCallsEnd() {

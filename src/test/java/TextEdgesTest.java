@@ -24,6 +24,7 @@ public final class TextEdgesTest {
         endsTooEarly();
         firstOfSeveralFaults();
         textGoesOnBehindFault();
+        manyFaults();
         whatKindsDoNotHave();
         instructionRange();
         Check.end();
@@ -312,16 +313,22 @@ public final class TextEdgesTest {
     }
 
     private static void manyTerms() {
-        Check.topic("as many TERMS as 6 FACTS and 6 INSTRUCTIONS have");
-        FlushedPipes x = Check.told("=ffffaffffb;!ffffcffffd;=fffgabfffgcd;!fffgacfffgbd;=fffgadfffgbc;!ggggaddddb;");
+        Check.topic("many TERMS: 100 letters, 6 FACTS and 6 INSTRUCTIONS");
+        String[] pairs = {"aa", "ab", "ac", "ad", "ba", "bb", "bc", "bd", "ca", "cb", "cc", "cd"};
+        StringBuilder text = new StringBuilder("=ffffaffffb;=ffffcffffd;");
+        for (int i = 0; i < 12; i += 3) {
+            text.append("!fffg" + pairs[i] + "gffg" + pairs[i + 1] + "ffg" + pairs[i + 2] + ";");
+        }
+        Check.due("its letters", text.length(), TEXT_LIMIT);
+        FlushedPipes x = Check.told(text.toString());
         for (int k = 0; k < 6; k++) {
             Check.due("puts", x.puts(k, 2, k % 4, k % 4, (k + 1) % 4), k + 1);
         }
         Check.due("tells(3, 0, 0)", x.tells(3, 0, 0), 1);
-        int[] want = {1, 2, 1, 2, 1, 2};
         for (int fact = 0; fact <= 5; fact++) {
-            Check.due("fact(" + fact + ")", x.fact(fact), want[fact]);
+            Check.due("fact(" + fact + ")", x.fact(fact), fact < 2 ? 1 : 2);
         }
+        Check.due("ruled()", x.ruled(), 0);
         Check.dueTerm(x, 0, 0, "ggabgbc");
         Check.dueTerm(x, 0, 1, "ggabb");
         Check.dueTerm(x, 1, 0, "ggbcgcd");
@@ -371,6 +378,27 @@ public final class TextEdgesTest {
         Check.due("type", x.type(';'), 4);
         Check.due("machine()", x.machine(), 1);
         Check.dueTerm(x, 3, 0, "fc");
+    }
+
+    /** What a text with a fault told of TERMS is nowhere left, however often. */
+    private static void manyFaults() {
+        Check.topic("4 -10 less FAULT: nothing changes, however many there are");
+        FlushedPipes x = Check.told("=ab;u01;");
+        for (int i = 0; i < 16; i++) {
+            char one = CONSTANTS.charAt(i / 4);
+            char other = CONSTANTS.charAt(i % 4);
+            String text = "=fffg" + one + other + "ffgf" + one + other + ";!ffg" + one + "f" + other;
+            Check.type(x, text);
+            Check.due("machine() of '" + text + "'", x.machine(), -10 - text.length());
+            Check.due("clear()", x.clear(), text.length());
+        }
+        Check.type(x, "=ggfabca;!gggfabcdgad;u10;");
+        Check.due("machine()", x.machine(), 3);
+        Check.due("ruled()", x.ruled(), 1);
+        x.leaves(0);
+        Check.due("ruled()", x.ruled(), 0);
+        Check.due("fact(0)", x.fact(0), 2);
+        Check.dueTerm(x, 1, 0, "fa");
     }
 
     private static void whatKindsDoNotHave() {
