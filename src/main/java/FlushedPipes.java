@@ -84,29 +84,49 @@ public final class FlushedPipes {
         /** The term of a head, f or g, and its parts; for f the second part is not looked at. */
         int make(int top, int first, int part) {
             int second = top == HEAD_G ? part : first;
-            if (!has(first) || !has(second)) {
+            int place = placeOf(top, first, second);
+            if (!has(first) || !has(second) || place < 0 || place >= head.length) {
                 return 0;
             }
+            if (place >= size) {
+                head[place] = top;
+                left[place] = first;
+                right[place] = second;
+                depth[place] = 1 + Math.max(depth[first], depth[second]);
+                letters[place] = 1 + letters[first] + (top == HEAD_G ? letters[second] : 0);
+                size = place + 1;
+            }
+            return place;
+        }
+
+        /** Where the term stands, or, if it is not there, where it comes to stand. */
+        private int placeOf(int top, int first, int second) {
             for (int i = REGISTERS; i < size && i < head.length; i++) {
                 if (head[i] == top && left[i] == first && right[i] == second) {
                     return i;
                 }
             }
-            return size >= 0 && size < head.length ? append(size, top, first, second) : 0;
-        }
-
-        private int append(int place, int top, int first, int second) {
-            head[place] = top;
-            left[place] = first;
-            right[place] = second;
-            depth[place] = 1 + Math.max(depth[first], depth[second]);
-            letters[place] = 1 + letters[first] + (top == HEAD_G ? letters[second] : 0);
-            size = place + 1;
-            return place;
+            return size;
         }
 
         int depthOf(int term) {
             return has(term) ? depth[term] : 0;
+        }
+
+        private int lettersOf(int term) {
+            return has(term) ? letters[term] : 0;
+        }
+
+        int leftOf(int term) {
+            return has(term) ? left[term] : NO_TERM;
+        }
+
+        int rightOf(int term) {
+            return has(term) ? right[term] : NO_TERM;
+        }
+
+        int headOf(int term) {
+            return has(term) ? head[term] : NO_TERM;
         }
 
         /** The k-th letter of a term; NONE behind its last one. */
@@ -116,16 +136,17 @@ public final class FlushedPipes {
             }
             int at = term;
             int ahead = k;
-            for (int level = 0; level < head.length && ahead > 0; level++) {
+            for (int level = 0; level < head.length && ahead > 0 && has(at); level++) {
                 ahead--;
-                if (ahead < letters[left[at]]) {
+                int first = lettersOf(left[at]);
+                if (ahead < first) {
                     at = left[at];
                 } else {
-                    ahead -= letters[left[at]];
+                    ahead -= first;
                     at = right[at];
                 }
             }
-            return signOf(head[at]);
+            return has(at) ? signOf(head[at]) : NONE;
         }
 
         private static int signOf(int top) {
@@ -314,6 +335,11 @@ public final class FlushedPipes {
             }
         }
 
+        /** Whether a fact is one of these (bits), and is EQUAL, or is UNLIKE. */
+        boolean isAmong(int facts, int fact, boolean equal) {
+            return has(fact) && (facts >> fact & 1) == 1 && alike[fact] == equal;
+        }
+
         int firstOf(int fact) {
             return has(fact) ? first[fact] : 0;
         }
@@ -357,7 +383,7 @@ public final class FlushedPipes {
 
         /** The letter of the next token, at which place then is. */
         private int peek() {
-            while (place < size && place < TEXT_LIMIT && text[place] == ' ') {
+            while (place >= 0 && place < size && place < TEXT_LIMIT && text[place] == ' ') {
                 place++;
             }
             return place >= 0 && place < size && place < TEXT_LIMIT ? text[place] : END_OF_TEXT;
@@ -492,9 +518,10 @@ public final class FlushedPipes {
                     int one = readBy(k, Program.firstOf(code), pipe);
                     int other = readBy(k, Program.secondOf(code), pipe);
                     made[k] = terms.make(headOf(kind), one, other);
-                    targets[k] = Program.targetOf(code);
-                    makers[targets[k]] = k;
-                    piped[targets[k]] = made[k];
+                    int target = Program.targetOf(code);
+                    targets[k] = target;
+                    makers[target] = k;
+                    piped[target] = made[k];
                 }
             }
         }
@@ -519,7 +546,7 @@ public final class FlushedPipes {
         }
 
         private boolean showsMaker(int step, int register, Pipe pipe) {
-            int maker = makers[register];
+            int maker = register >= 0 && register < REGISTERS ? makers[register] : NO_MAKER;
             return maker < 0 || maker >= PROGRAM_LIMIT || pipe.shows(step - steps[maker]);
         }
 
@@ -561,35 +588,35 @@ public final class FlushedPipes {
         /** Chains of the functions whose left parts have one root: a match is sought in its chain alone. */
         private final int[] chain = new int[TERM_LIMIT];
         private final int[] next = new int[TERM_LIMIT];
-        private Terms terms;
         private int size;
 
         void closeBy(Told told, int facts) {
-            terms = told.terms;
-            size = Math.min(terms.size, TERM_LIMIT);
-            for (int i = 0; i < size; i++) {
+            size = Math.min(told.terms.size, TERM_LIMIT);
+            for (int i = 0; i < size && i < TERM_LIMIT; i++) {
                 root[i] = i;
             }
             for (int fact = 0; fact < told.facts; fact++) {
-                if ((facts >> fact & 1) == 1 && told.alike[fact]) {
+                if (told.isAmong(facts, fact, true)) {
                     merge(told.firstOf(fact), told.secondOf(fact));
                 }
             }
-            spread();
+            spread(told.terms);
         }
 
-        void assume(int one, int other) {
+        /** What follows if two are equal, beside the facts by which it was closed. */
+        void assume(Told told, int one, int other) {
             merge(one, other);
-            spread();
+            spread(told.terms);
         }
 
         boolean same(int one, int other) {
-            return one >= 0 && one < size && other >= 0 && other < size && root[one] == root[other];
+            int common = rootOf(one);
+            return common != NO_TERM && common == rootOf(other);
         }
 
         boolean rulesOut(Told told, int facts) {
             for (int fact = 0; fact < told.facts; fact++) {
-                if ((facts >> fact & 1) == 1 && !told.alike[fact] && same(told.firstOf(fact), told.secondOf(fact))) {
+                if (told.isAmong(facts, fact, false) && same(told.firstOf(fact), told.secondOf(fact))) {
                     return true;
                 }
             }
@@ -597,12 +624,10 @@ public final class FlushedPipes {
         }
 
         private void merge(int one, int other) {
-            if (one < 0 || one >= size || other < 0 || other >= size) {
-                return;
-            }
-            int stays = root[one];
-            int goes = root[other];
-            for (int i = 0; i < size && stays != goes; i++) {
+            int stays = rootOf(one);
+            int goes = rootOf(other);
+            boolean apart = stays != goes && stays != NO_TERM && goes != NO_TERM;
+            for (int i = 0; i < size && i < TERM_LIMIT && apart; i++) {
                 if (root[i] == goes) {
                     root[i] = stays;
                 }
@@ -610,23 +635,26 @@ public final class FlushedPipes {
         }
 
         /** Every pass but the last one merges two roots at least, so there are no more passes than terms. */
-        private void spread() {
-            boolean changed = terms != null;
+        private void spread(Terms terms) {
+            boolean changed = true;
             for (int pass = 0; pass <= TERM_LIMIT && changed; pass++) {
-                changed = spreadOnce();
+                changed = spreadOnce(terms);
             }
         }
 
-        private boolean spreadOnce() {
+        private boolean spreadOnce(Terms terms) {
             boolean changed = false;
             Arrays.fill(chain, NO_TERM);
-            for (int i = REGISTERS; i < size; i++) {
-                int key = root[terms.left[i]];
-                int match = findMatch(i, chain[key]);
+            for (int i = REGISTERS; i < size && i < TERM_LIMIT; i++) {
+                int key = rootOf(terms.leftOf(i));
+                if (key < 0 || key >= TERM_LIMIT) {
+                    continue;
+                }
+                int match = findMatch(terms, i, chain[key]);
                 if (match == NO_TERM) {
                     next[i] = chain[key];
                     chain[key] = i;
-                } else if (root[match] != root[i]) {
+                } else if (rootOf(match) != root[i]) {
                     merge(match, i);
                     changed = true;
                 }
@@ -634,15 +662,21 @@ public final class FlushedPipes {
             return changed;
         }
 
-        private int findMatch(int term, int start) {
+        private int findMatch(Terms terms, int term, int start) {
+            int top = terms.headOf(term);
+            int right = rootOf(terms.rightOf(term));
             int at = start;
-            for (int i = 0; i < size && at >= 0 && at < size; i++) {
-                if (terms.head[at] == terms.head[term] && root[terms.right[at]] == root[terms.right[term]]) {
+            for (int i = 0; i < size && at >= 0 && at < TERM_LIMIT; i++) {
+                if (terms.headOf(at) == top && rootOf(terms.rightOf(at)) == right) {
                     return at;
                 }
                 at = next[at];
             }
             return NO_TERM;
+        }
+
+        private int rootOf(int term) {
+            return term >= 0 && term < size && term < TERM_LIMIT ? root[term] : NO_TERM;
         }
     }
 
@@ -862,7 +896,7 @@ public final class FlushedPipes {
         if (closure.same(one, other) || closure.rulesOut(told, now.factsIn)) {
             return 1;
         }
-        closure.assume(one, other);
+        closure.assume(told, one, other);
         return closure.rulesOut(told, now.factsIn) ? 2 : 0;
     }
 
@@ -960,19 +994,11 @@ public final class FlushedPipes {
             return NONE;
         }
         for (int bits = 0; bits <= told.facts; bits++) {
-            int facts = fewestOf(bits);
-            if (facts != NONE) {
-                return facts;
-            }
-        }
-        return NONE;
-    }
-
-    private int fewestOf(int bits) {
-        for (int facts = 0; facts <= now.factsIn; facts++) {
-            boolean fits = Integer.bitCount(facts) == bits && (facts & ~now.factsIn) == 0;
-            if (fits && wrongBy(facts) == 0) {
-                return facts;
+            for (int facts = 0; facts <= now.factsIn; facts++) {
+                boolean fits = Integer.bitCount(facts) == bits && (facts & ~now.factsIn) == 0;
+                if (fits && wrongBy(facts) == 0) {
+                    return facts;
+                }
             }
         }
         return NONE;

@@ -1,79 +1,53 @@
-import java.nio.file.Files;
 import java.nio.file.Path;
-import java.util.regex.Matcher;
-import java.util.regex.Pattern;
+import java.util.List;
+import java.util.Set;
+import java.util.TreeSet;
 
-/** The rules of LANGUAGE.md that can be seen in the words of the file. */
+/** The rules of LANGUAGE.md, held against the file as the compiler reads it; rule 1 is FaceTest's. */
 public final class FormTest {
-    private static final String[] FORBIDDEN = {"throw", "throws", "try", "catch", "synchronized", "assert", "package",
-        "protected", "native", "volatile", "transient", "Object", "System.out", "System.err", "Thread", "Random",
-        "nanoTime", "currentTimeMillis", "hashCode", "toString", "equals", "addExact", "multiplyExact"};
+    private static final int CLASSES = 12, FIELDS = 20, LINES = 60, PARAMETERS = 7, CALLS_DEEP = 8;
 
     public static void main(String[] args) throws Exception {
-        Check.topic("the form");
-        String code = withoutComments(Files.readString(Path.of("src/main/java/FlushedPipes.java")));
-        for (String word : FORBIDDEN) {
-            Check.due(word, times(code, "\\b" + Pattern.quote(word) + "\\b"), 0);
-        }
-        Check.due("lambdas", times(code, "->"), 0);
-        Check.due("method references", times(code, "::"), 0);
-        Check.due("imports", times(code, "\\bimport\\b"), times(code, "import java\\.util\\.(Arrays|ArrayList|List);"));
-        Check.due("library calls but fill", times(code, "Arrays\\.(?!fill\\b)"), 0);
-        Check.due("array initialisers of static blocks", times(code, "static\\s*\\{"), 0);
-        Check.due("static fields that are not final", times(code, "static (?!final )[\\w\\[\\]]+ \\w+\\s*[=;,]"), 0);
-        Check.due("classes but twelve", Math.max(0, times(code, "\\bclass \\w+") - 12), 0);
-        Check.due("signs above 126", times(code, "[^\\x00-\\x7e]"), 0);
-        objectsOnlyInConstructors(code);
-        shortMethods(code);
+        Form form = Form.of(Path.of("src/main/java/FlushedPipes.java"));
+        dueNone("2 a class inside that is not static, is local or anonymous", form.classesNotStatic);
+        dueNone("2, 6, 10 what is not of the language", form.forbidden);
+        dueNone("3 types", form.typesNotListed);
+        dueNone("4 the library", form.callsNotListed);
+        dueNone("4, 13 imports", form.importsNotListed);
+        dueNone("5 static fields", form.staticFieldsNotConstant);
+        dueNone("6 casts, but among numbers", form.casts);
+        dueNone("7 an index that is not looked at", form.indexesNotLookedAt);
+        dueNone("7 a divisor that is not a constant", form.divisors);
+        dueNone("9 a loop whose end can't be seen", form.loopsWithoutBound);
+        dueNone("12 an object that a call makes", form.madeByCalls);
+        dueNone("4 signs above 126", form.oddSigns);
+        Check.topic("8 recursion: the level is carried as an argument");
+        Check.due("methods that call themselves: " + form.recursive(), form.recursive().size(), 1);
+        Check.due("it is readTerm", form.recursive().contains("Reader.readTerm") ? 1 : 0, 1);
+        sizes(form);
         Check.end();
     }
 
-    private static String withoutComments(String code) {
-        return code.replaceAll("(?s)/\\*.*?\\*/", "").replaceAll("//[^\n]*", "");
+    private static void dueNone(String rule, List<String> found) {
+        Check.topic(rule);
+        Set<String> each = new TreeSet<>(found);
+        Check.due(each.toString(), each.size(), 0);
     }
 
-    private static int times(String code, String pattern) {
-        Matcher matcher = Pattern.compile(pattern).matcher(code);
-        int times = 0;
-        while (matcher.find()) {
-            times++;
-        }
-        return times;
+    private static void sizes(Form form) {
+        Check.topic("11 sizes");
+        Check.due("classes are found", form.classes > 1 ? 1 : 0, 1);
+        dueAtMost("classes", form.classes, CLASSES);
+        form.fields.forEach((name, fields) -> dueAtMost("fields of " + name, fields, FIELDS));
+        Check.due("methods are found", form.lines.size() > 60 ? 1 : 0, 1);
+        form.lines.forEach((name, lines) -> dueAtMost("lines of " + name, lines, LINES));
+        form.parameters.forEach((name, parameters) -> dueAtMost("parameters of " + name, parameters, PARAMETERS));
+        List<String> deepest = form.deepestCalls();
+        dueAtMost("calls deep of " + deepest, deepest.size(), CALLS_DEEP);
+        Check.due("calls are found", deepest.size() > 4 ? 1 : 0, 1);
     }
 
-    /** A run's room is shared by all its calls, so calls make nothing: no method that answers something has a new. */
-    private static void objectsOnlyInConstructors(String code) {
-        Matcher matcher = methods(code);
-        while (matcher.find()) {
-            String body = bodyAt(code, matcher.end() - 1);
-            Check.due("objects made by " + matcher.group(2), times(body, "\\bnew\\b"), 0);
-        }
-    }
-
-    private static void shortMethods(String code) {
-        Matcher matcher = methods(code);
-        int methods = 0;
-        while (matcher.find()) {
-            methods++;
-            String body = bodyAt(code, matcher.end() - 1);
-            Check.due("lines above 60 of " + matcher.group(2), Math.max(0, times(body, "\n") - 60), 0);
-            Check.due("parameters above 7 of " + matcher.group(2), Math.max(0, times(matcher.group(3), ",") - 6), 0);
-        }
-        Check.due("methods are found", methods > 60 ? 1 : 0, 1);
-    }
-
-    private static Matcher methods(String code) {
-        return Pattern.compile("\\b(int|boolean|void) (\\w+)\\(([^)]*)\\) \\{").matcher(code);
-    }
-
-    private static String bodyAt(String code, int open) {
-        int depth = 0;
-        for (int i = open; i < code.length(); i++) {
-            depth += code.charAt(i) == '{' ? 1 : code.charAt(i) == '}' ? -1 : 0;
-            if (depth == 0) {
-                return code.substring(open, i);
-            }
-        }
-        return code.substring(open);
+    private static void dueAtMost(String what, int is, int limit) {
+        Check.due(what + " above " + limit, Math.max(0, is - limit), 0);
     }
 }
