@@ -1,14 +1,17 @@
+import java.lang.reflect.Method;
+import java.lang.reflect.Modifier;
 import java.nio.file.Path;
 import java.util.List;
 import java.util.Set;
 import java.util.TreeSet;
 
-/** The rules of LANGUAGE.md, held against the file as the compiler reads it; rule 1 is FaceTest's. */
+/** The rules of LANGUAGE.md, held against the file as the compiler reads it; the rest of rule 1 is FaceTest's. */
 public final class FormTest {
     private static final int CLASSES = 12, FIELDS = 20, LINES = 60, PARAMETERS = 7, CALLS_DEEP = 8;
 
     public static void main(String[] args) throws Exception {
         Form form = Form.of(Path.of("src/main/java/FlushedPipes.java"));
+        namesOfItsOwn(form);
         dueNone("2 a class inside that is not static, is local or anonymous", form.classesNotStatic);
         dueNone("2, 6, 10 what is not of the language", form.forbidden);
         dueNone("3 types", form.typesNotListed);
@@ -32,6 +35,21 @@ public final class FormTest {
         Check.topic(rule);
         Set<String> each = new TreeSet<>(found);
         Check.due(each.toString(), each.size(), 0);
+    }
+
+    private static void namesOfItsOwn(Form form) {
+        Check.topic("1 no other method bears the name of a public one");
+        Set<String> face = new TreeSet<>();
+        for (Method method : FlushedPipes.class.getDeclaredMethods()) {
+            if (Modifier.isPublic(method.getModifiers())) {
+                face.add(method.getName());
+            }
+        }
+        for (String method : form.lines.keySet()) {
+            String name = method.substring(method.indexOf('.') + 1);
+            boolean inside = !method.startsWith("FlushedPipes.");
+            Check.due(method, inside && face.contains(name) ? 1 : 0, 0);
+        }
     }
 
     private static void sizes(Form form) {
